@@ -342,10 +342,13 @@ public final class AgingStamps {
         if (m < 1 || m > YEARS_LIMIT) {
             return OUTSIDE;
         }
+        // Copied once a call: the weeks of each time go by behind those of the time before.
+        trial.copyFrom(now);
         int together = 0;
         for (int i = 0; i < m; i++) {
             seed = seed * SEED_FACTOR + SEED_ADDEND;
-            together += aliveAfter((int) ((seed >>> 33) % 10));
+            tryWeeks((int) ((seed >>> 33) % 10));
+            together += Integer.bitCount(trial.aliveBits());
         }
         return together;
     }
@@ -442,15 +445,13 @@ public final class AgingStamps {
         return true;
     }
 
-    private int aliveAfter(int weeks) {
-        trial.copyFrom(now);
+    private void tryWeeks(int weeks) {
         for (int w = 1; w <= weeks; w++) {
-            if (w == weeks && weeks % 2 == 1) {
-                trial.damp = true;
-            }
+            boolean lastOfOdd = w == weeks && weeks % 2 == 1;
+            // Told anew each week, so that a damp last one does not make the next time damp.
+            trial.damp = now.damp || lastOfOdd;
             trial.passWeek();
         }
-        return Integer.bitCount(trial.aliveBits());
     }
 
     private static boolean isContent(int alone, int takes, int otherTakes) {

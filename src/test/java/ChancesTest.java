@@ -8,6 +8,8 @@ public final class ChancesTest {
         births();
         seeds();
         years();
+        yearsOneAfterAnother();
+        yearsChangeNothing();
         due.end();
     }
 
@@ -147,20 +149,73 @@ public final class ChancesTest {
         due.is("2 damp weeks: 57", alive(x, 2), 4);
         due.is("3 damp weeks: 59", alive(x, 3), 4);
         due.is("4 damp weeks: 61", alive(x, 4), 1);
-        due.is("damp stays", x.count(4), 1);
-        due.is("week stays", x.count(3), 3);
-        due.is("ages stay", x.stamp(0, 0), 53);
-        due.is("acts stay", x.count(9), 4);
         due.is("m", x.years(0), AgingStamps.OUTSIDE);
         due.is("m", x.years(31), AgingStamps.OUTSIDE);
         due.is("m", x.years(-5), AgingStamps.OUTSIDE);
-        x.seed(3);
-        int together = 0;
+        due.is("no stamps", new AgingStamps().years(30), 0);
+    }
+
+    /** What years answers of an album by the seed 0: 7, 4, 7, 6, 5, 1, 4, 5, 4, 9, 3 weeks and so on. */
+    private static void yearsOf(String album, int m, int want) {
+        due.is("years " + m + " of " + album, Due.album(album).years(m), want);
+    }
+
+    private static void yearsOneAfterAnother() {
+        yearsOf("AS500", 1, 1);
+        // 58, then 62: alive the first time only.
+        yearsOf("AS500", 2, 1);
+        // The second time is dry again: 62 is less than 63, and the third time 70 is not.
+        yearsOf("AS510", 2, 2);
+        yearsOf("AS510", 3, 2);
+        // 8, 12, 20, 26, 32, 34, 38, 44, 48, 58, 62.
+        yearsOf("AS000", 10, 10);
+        yearsOf("AS000", 30, 10);
+        yearsOf("AS003", 30, 30);
+        yearsOf("AS003S600", 30, 30);
+        // The first is 60 in the second week of the second time; the other one, a widow
+        // since then, is 8, 18, 40, 58 and dies in the fifth time.
+        yearsOf("AS500S000J01", 4, 5);
+        yearsOf("AS500S000J01", 30, 5);
+        AgingStamps x = Due.album("AS000");
+        x.damp();
+        // 14, 22, 36, 48, 58, 60.
+        due.is("damp years", x.years(30), 5);
+        due.is("it is damp still", x.count(4), 1);
+    }
+
+    private static void yearsChangeNothing() {
+        AgingStamps x = Due.album("AS500S000S003J01L91");
+        x.stick(1, 0);
+        x.send(0);
+        x.week();
+        x.keep(0);
+        // 51, 59, 63 and 1, 9, then a widow.
+        due.is("years", x.years(2), 5);
+        due.is("seed after 2", x.seed(0), 1442695040888963407L * 6364136223846793005L + 1442695040888963407L);
+        due.is("years by the same seed", x.years(2), 5);
+        due.is("damp stays", x.count(4), 0);
+        due.is("week stays", x.count(3), 1);
+        due.is("age stays", x.stamp(0, 0), 51);
+        due.is("age stays", x.stamp(1, 0), 1);
+        due.is("all are alive still", x.count(5), 7);
+        due.is("nobody is a widow", x.count(6), 0);
+        due.is("letter stays", x.letter(0, 0), 8);
+        due.is("letter is on its way", x.letter(0, 4), 1);
+        due.is("acts stay", x.count(9), 3);
+        due.is("what is kept stays", x.again(0), 1);
+        due.is("age kept", x.stamp(0, 0), 51);
+        // By a call of its own each time begins from now: 7 and then 4 weeks from 51.
+        x.seed(0);
+        due.is("years, a first call", x.years(1), 3);
+        due.is("years, a call of its own", x.years(1), 3);
+        long next = 3;
+        x.seed(next);
+        x.years(30);
         for (int i = 0; i < 30; i++) {
-            together += x.years(1);
+            next = next * 6364136223846793005L + 1442695040888963407L;
         }
-        long end = x.seed(3);
-        due.is("30 times", x.years(30), together);
-        due.is("seed after 30", x.seed(0), end);
+        due.is("seed after 30", x.seed(0), next);
+        x.years(31);
+        due.is("seed after a refusal", x.seed(0), 0);
     }
 }

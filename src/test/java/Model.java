@@ -441,16 +441,16 @@ final class Model {
     int years(int m) {
         if (m < 1 || m > 30) return OUTSIDE;
         int sum = 0;
+        World w = now.copy();
         for (int i = 0; i < m; i++) {
             BigInteger next = BigInteger.valueOf(seed).multiply(new BigInteger("6364136223846793005"))
                 .add(new BigInteger("1442695040888963407")).mod(BigInteger.ONE.shiftLeft(64));
             seed = next.longValue();
             int weeks = next.shiftRight(33).mod(BigInteger.TEN).intValue();
-            World w = now.copy();
-            for (int k = 0; k < weeks; k++) {
-                w.damp = now.damp || weeks % 2 == 1 && k == weeks - 1;
-                w.goWeek();
-            }
+            for (int k = 1; k < weeks; k++) w.goWeek();
+            if (weeks % 2 == 1) w.damp = true;
+            if (weeks > 0) w.goWeek();
+            w.damp = now.damp;
             sum += w.aliveCount();
         }
         return sum;
