@@ -115,19 +115,8 @@ public final class ChancesTest {
         due.is("seed", x.seed(0), Long.MAX_VALUE);
     }
 
-    /** The seed by which the next figure (what is left by 10) is the one that is told. */
-    private static long seedFor(int figure) {
-        for (long seed = 0; seed < 1000; seed++) {
-            long next = seed * 6364136223846793005L + 1442695040888963407L;
-            if ((next >>> 33) % 10 == figure) {
-                return seed;
-            }
-        }
-        return 0;
-    }
-
     private static int alive(AgingStamps x, int figure) {
-        x.seed(seedFor(figure));
+        x.seed(Due.seedFor(figure));
         return x.years(1);
     }
 

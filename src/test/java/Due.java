@@ -9,6 +9,13 @@ final class Due {
         }
     }
 
+    void same(String what, String got, String want) {
+        if (!got.equals(want)) {
+            wrong++;
+            System.out.println(what + ": it is " + got + ", due is " + want);
+        }
+    }
+
     void end() {
         if (wrong != 0) {
             System.out.println(wrong + " answers are not as due");
@@ -37,5 +44,16 @@ final class Due {
         for (int i = 0; i < n; i++) {
             x.week();
         }
+    }
+
+    /** A seed by which the next number of weeks (what is left by 10) is the one that is told. */
+    static long seedFor(int weeks) {
+        for (long seed = 0; seed < 1000; seed++) {
+            long next = seed * 6364136223846793005L + 1442695040888963407L;
+            if ((next >>> 33) % 10 == weeks) {
+                return seed;
+            }
+        }
+        return 0;
     }
 }

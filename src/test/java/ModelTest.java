@@ -4,16 +4,23 @@ import java.util.Random;
 public final class ModelTest {
     private static final Due due = new Due();
     private static final int[] ODD = {-1, 5, 4, 9, 11, 31, 99, 100, Integer.MIN_VALUE, Integer.MAX_VALUE};
+    // Beyond 512 calls of an object answers are free: a new text (at most 55) and the look at
+    // the end (195) must find room behind the last step.
+    private static final int CALLS = 512 - 195 - 55;
     private static int run;
+    private static int calls;
 
     public static void main(String[] args) {
-        for (run = 0; run < 800; run++) {
+        for (run = 0; run < 1400; run++) {
             Random chance = new Random(run);
             AgingStamps x = new AgingStamps();
             Model y = new Model();
-            int calls = 0;
-            while (calls < 440) {
-                calls += chance.nextInt(60) == 0 || calls == 0 ? newText(chance, x, y) : 1;
+            calls = 0;
+            newText(chance, x, y);
+            for (int i = 0; i < 300 && calls < CALLS; i++) {
+                if (chance.nextInt(60) == 0) {
+                    newText(chance, x, y);
+                }
                 step(chance, x, y);
             }
             look(x, y);
@@ -46,7 +53,7 @@ public final class ModelTest {
         return text.toString();
     }
 
-    private static int newText(Random chance, AgingStamps x, Model y) {
+    private static void newText(Random chance, AgingStamps x, Model y) {
         StringBuilder text = new StringBuilder(albumText(chance));
         if (chance.nextInt(3) == 0) {
             String signs = "ASJL0123456789x";
@@ -60,10 +67,10 @@ public final class ModelTest {
         }
         same("fault of " + text, x.fault(), y.fault());
         same("album of " + text, x.album(), y.album());
-        return text.length() + 3;
     }
 
     private static void same(String call, long got, long want) {
+        calls++;
         due.is("run " + run + ": " + call, got, want);
     }
 
