@@ -298,7 +298,6 @@ public final class SlotsEdgesTest {
             x.album();
             x.write(round);
         }
-        due.is("it answers still", x.count(11), OUTSIDE);
     }
 
     private static void everyCall(AgingStamps x, int a, int b, int c) {

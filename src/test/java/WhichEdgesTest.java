@@ -289,6 +289,12 @@ public final class WhichEdgesTest {
         due.is("two", ring.block(3), 24);
         ring.part(0, 1);
         due.is("joined still, the other way", ring.block(0), 7);
+        // 3 is joined to 0 by two ways, 1 and 2.
+        AgingStamps twoWays = Due.album("AS000S000S000S000S000J01J02J13J23");
+        for (int s = 0; s < 4; s++) {
+            due.is("two ways, from " + s, twoWays.block(s), 15);
+        }
+        due.is("no way", twoWays.block(4), 16);
         AgingStamps none = Due.album("AS000S000S000S000S000");
         for (int s = 0; s < 5; s++) {
             due.is("nobody joined", none.block(s), 1 << s);
