@@ -16,6 +16,7 @@ public final class ChancesEdgesTest {
         shareOfLettersNotSent();
         shareRefused();
         restsByThreeCut();
+        restsForOneNotAlive();
         restsOfAllRates();
         restsRefused();
         bornFromNoneToNine();
@@ -150,6 +151,18 @@ public final class ChancesEdgesTest {
         rests(forged, 1, 2, 1, 0);
         rests(forged, 2, 3, 1, 0);
         rests(forged, 0, 3, 2, 0);
+    }
+
+    /** "it has the RATE of the STAMP": nothing is said of its life, so a dead one has its RATE. */
+    private static void restsForOneNotAlive() {
+        // Age 59 of a span of 60: rate 4, alone 4 and 2; in a week it is dead, with rate 5, alone 5 and 3.
+        AgingStamps x = Due.album("AS500L11L61");
+        Due.weeks(x, 9);
+        due.is("alive", x.stamp(0, 5), 1);
+        rests(x, 0, 1, 1, 10);
+        x.week();
+        due.is("not alive", x.stamp(0, 5), 0);
+        rests(x, 0, 1, 2, 10);
     }
 
     /** All rates and ways; alone one has a, the other b, and 3 less if both take it. */
